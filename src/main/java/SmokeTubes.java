@@ -261,7 +261,7 @@ public final class SmokeTubes {
         needFireOrNone(fire);
         needCourse(first, other, k);
         needMinute(by);
-        return turns.mostAlone(fire, by) - turns.outBy(first, other, k, fire, by);
+        return turns.regretOf(first, other, k, fire, by);
     }
 
     public int turn(int plan, int k, int by) throws IllegalStateException, IllegalArgumentException {
@@ -289,7 +289,7 @@ public final class SmokeTubes {
         needWithin(k, 0, MINUTES);
         needMinute(by);
         int best = 0;
-        int least = Integer.MAX_VALUE;
+        int least = MILLION;
         for (int plan = 0; plan < PLANS; plan++) {
             watch.look(plan);
             turns.weigh(plan, k, by);
@@ -770,21 +770,6 @@ public final class SmokeTubes {
             return Math.min(fires.at(fire, FIRE_TOP), fires.at(fire, FIRE_FIRST) + grown);
         }
 
-        /** 1, -1 or 0: what counts for a fan by a plan in a minute. */
-        int fanIs(int plan, int fan, int minute) {
-            int latest = NONE;
-            int is = 0;
-            for (int told = 0; told < sets.size(); told++) {
-                int from = sets.at(told, SET_MINUTE);
-                if (sets.at(told, SET_PLAN) == plan && sets.at(told, SET_FAN) == fan
-                        && from <= minute && from >= latest) {
-                    latest = from;
-                    is = sets.at(told, SET_IS);
-                }
-            }
-            return is;
-        }
-
         /** The other end of a way of a piece; NONE if it isn't one of its ways. */
         int otherEnd(int way, int piece) {
             int a = ways.at(way, WAY_A);
@@ -843,6 +828,8 @@ public final class SmokeTubes {
         private final int[] airs = new int[MINUTES * MOST_WAYS];
         private final int[] totals = new int[MINUTES * TOTALS];
         private final int[] lost = new int[MOST_FANS];
+        private final int[] turned = new int[MINUTES * MOST_FANS];
+        private final int[] turnedFrom = new int[MINUTES * MOST_FANS];
         private final int[] shares = new int[MOST_PIECES];
         private final int[] leftAbove = new int[MOST_PIECES];
         private final int[] leftMixed = new int[MOST_PIECES];
@@ -870,11 +857,12 @@ public final class SmokeTubes {
             knownK = k;
             knownFire = fire;
             clear();
+            turnFans(first, other, k);
             for (int minute = 0; minute < MINUTES; minute++) {
                 loseFans(minute);
-                driveAir(minute, minute < k ? first : other);
+                driveAir(minute);
                 if (minute < LAST_MINUTE) {
-                    step(minute, fire);
+                    step(minute, house.fires.at(fire, House.FIRE_PIECE), house.gives(fire, minute));
                 }
             }
         }
@@ -928,6 +916,23 @@ public final class SmokeTubes {
             Arrays.fill(lost, NONE);
         }
 
+        /** Of all that is told, in the order in which it was: what counts for each fan in each minute. */
+        private void turnFans(int first, int other, int k) {
+            Arrays.fill(turned, 0);
+            Arrays.fill(turnedFrom, NONE);
+            for (int told = 0; told < house.sets.size(); told++) {
+                int plan = house.sets.at(told, House.SET_PLAN);
+                int from = house.sets.at(told, House.SET_MINUTE);
+                for (int minute = from; minute < MINUTES; minute++) {
+                    int at = minute * MOST_FANS + house.sets.at(told, House.SET_FAN);
+                    if ((minute < k ? first : other) == plan && from >= turnedFrom[at]) {
+                        turnedFrom[at] = from;
+                        turned[at] = house.sets.at(told, House.SET_IS);
+                    }
+                }
+            }
+        }
+
         private void loseFans(int minute) {
             for (int fan = 0; minute > 0 && fan < house.fans.size(); fan++) {
                 if (lost[fan] == NONE && isTooMuch(fan, minute - 1)) {
@@ -949,14 +954,14 @@ public final class SmokeTubes {
             return false;
         }
 
-        private void driveAir(int minute, int plan) {
+        private void driveAir(int minute) {
             int from = minute * MOST_WAYS;
             for (int way = 0; way < house.ways.size(); way++) {
                 airs[from + way] = house.ways.at(way, House.WAY_DRAUGHT);
             }
             for (int fan = 0; fan < house.fans.size(); fan++) {
                 if (lost[fan] == NONE) {
-                    int push = house.fans.at(fan, House.FAN_PUSH) * house.fanIs(plan, fan, minute);
+                    int push = house.fans.at(fan, House.FAN_PUSH) * turned[minute * MOST_FANS + fan];
                     airs[from + house.fans.at(fan, House.FAN_WAY)] += push;
                 }
             }
@@ -965,8 +970,8 @@ public final class SmokeTubes {
             }
         }
 
-        private void step(int minute, int fire) {
-            begin(minute, fire);
+        private void step(int minute, int burning, int gives) {
+            begin(minute, burning, gives);
             for (int way = 0; way < house.ways.size(); way++) {
                 int a = house.ways.at(way, House.WAY_A);
                 int b = house.ways.at(way, House.WAY_B);
@@ -984,9 +989,7 @@ public final class SmokeTubes {
             }
         }
 
-        private void begin(int minute, int fire) {
-            int gives = house.gives(fire, minute);
-            int burning = house.fires.at(fire, House.FIRE_PIECE);
+        private void begin(int minute, int burning, int gives) {
             for (int piece = 0; piece < house.pieces.size(); piece++) {
                 leftAbove[piece] = aboveIn(piece, minute) + (piece == burning ? gives : 0);
                 leftMixed[piece] = mixedIn(piece, minute);
@@ -1147,9 +1150,10 @@ public final class SmokeTubes {
         }
 
         private int leastFree(int depth) {
-            int least = Integer.MAX_VALUE;
+            int least = Escape.ANY;
             for (int at = 0; at < depth; at++) {
-                least = Math.min(least, free[path[at]]);
+                int left = free[path[at]];
+                least = left < least ? left : least;
             }
             return least;
         }
@@ -1174,7 +1178,7 @@ public final class SmokeTubes {
 
     /** Who can be out, by the smoke that was followed last. */
     private static final class Escape {
-        private static final int ANY = MILLION;
+        static final int ANY = MILLION;
         private static final int FIRST_BEING = 8;
         private final House house;
         private final Smoke smoke;
@@ -1291,11 +1295,11 @@ public final class SmokeTubes {
         }
 
         private static int begin(int piece, int minute) {
-            return 2 * spot(piece, minute);
+            return 2 * (minute * MOST_PIECES + piece);
         }
 
         private static int being(int piece, int minute) {
-            return begin(piece, minute) + 1;
+            return 2 * (minute * MOST_PIECES + piece) + 1;
         }
 
         private void joinRooms(int by) {
@@ -1381,20 +1385,19 @@ public final class SmokeTubes {
             return outs[at];
         }
 
-        int mostAlone(int fire, int by) {
+        int regretOf(int first, int other, int k, int fire, int by) {
             int most = 0;
-            for (int plan = 0; plan < PLANS; plan++) {
-                most = Math.max(most, outBy(plan, plan, 0, fire, by));
+            for (int alone = 0; alone < PLANS; alone++) {
+                most = Math.max(most, outBy(alone, alone, 0, fire, by));
             }
-            return most;
+            return most - outBy(first, other, k, fire, by);
         }
 
         /** Finds the regrets of all that a turn may choose: for each fire and plan from k on. */
         void weigh(int plan, int k, int by) {
             for (int fire = 0; fire < house.fires.size(); fire++) {
-                int most = mostAlone(fire, by);
                 for (int other = 0; other < PLANS; other++) {
-                    regrets[fire * PLANS + other] = most - outBy(plan, other, k, fire, by);
+                    regrets[fire * PLANS + other] = regretOf(plan, other, k, fire, by);
                 }
             }
         }
@@ -1412,7 +1415,7 @@ public final class SmokeTubes {
 
         /** The regret of the turn that was weighed last. */
         int regretOfTurn(int k) {
-            int greatest = Integer.MIN_VALUE;
+            int greatest = -MILLION;
             for (int fire = 0; fire < house.fires.size(); fire++) {
                 greatest = Math.max(greatest, regrets[fire * PLANS + planFor(fire, k)]);
             }
@@ -1433,7 +1436,7 @@ public final class SmokeTubes {
 
         /** The regret of a plan in the class of a fire. */
         private int greatestRegret(int fire, int other, int k) {
-            int greatest = Integer.MIN_VALUE;
+            int greatest = -MILLION;
             for (int like = 0; like < house.fires.size(); like++) {
                 if (watch.sameTold(fire, like, k)) {
                     greatest = Math.max(greatest, regrets[like * PLANS + other]);

@@ -68,10 +68,12 @@ public final class RandomRuns {
     private final List<String> log = new ArrayList<>();
     private final int wrongs;
     private final int most;
+    private final boolean isHouse;
 
     private RandomRuns(long seed) {
         random = new Random(seed);
-        wrongs = random.nextInt(3) == 0 ? 6 : 60;
+        isHouse = seed % 2 == 0;
+        wrongs = isHouse ? 1000 : random.nextInt(3) == 0 ? 6 : 60;
         most = 1 + random.nextInt(8);
     }
 
@@ -174,6 +176,10 @@ public final class RandomRuns {
         for (int i = 0; i < each.length; i++) {
             arguments[i] = argument(each[i]);
         }
+        return hold(name, arguments);
+    }
+
+    private boolean hold(String name, Object... arguments) {
         Object due = answer(plain, name, arguments);
         Object got = answer(tubes, name, arguments);
         String said = Arrays.toString(arguments);
@@ -215,7 +221,97 @@ public final class RandomRuns {
         return true;
     }
 
+    private boolean tell(String name, Object... arguments) {
+        return hold(name, arguments);
+    }
+
+    /** A house in which people can be out with some fires and not with others, so that doors and plans matter. */
+    private boolean house() {
+        int pieces = number(2, 5);
+        boolean right = true;
+        for (int p = 0; p < pieces; p++) {
+            right &= tell("piece", number(5, 60), p == 0 || random.nextInt(3) == 0 ? number(1, 8) : 0);
+        }
+        for (int w = 0; w < number(pieces - 1, pieces + 2); w++) {
+            int a = w + 1 < pieces ? w + 1 : number(0, pieces - 1);
+            int b = w + 1 < pieces ? number(0, w) : (a + number(1, pieces - 1)) % pieces;
+            right &= tell("way", a, b, number(1, 3), number(2, 20), random.nextBoolean() ? 0 : number(-7, 7));
+        }
+        for (int f = 0; f < number(1, 4); f++) {
+            int begins = number(0, 4);
+            right &= tell("fire", number(0, pieces - 1), begins, number(begins + 1, 21), number(0, 2000),
+                number(0, 300), number(500, 5000));
+        }
+        for (int f = 0; f < number(1, 5); f++) {
+            right &= tell("fan", number(0, plain.count(1) - 1), number(2, 6), number(200, 6000), 0);
+        }
+        for (int i = 0; i < number(4, 16); i++) {
+            right &= tell("set", number(0, 3), number(0, plain.count(3) - 1), number(0, 4), pick(-1, 1, 1, -1, 0));
+        }
+        for (int g = 0; g < number(1, 4); g++) {
+            right &= tell("group", number(0, pieces - 1), number(1, 20), number(0, 6));
+        }
+        for (int d = 0; d < number(0, 6); d++) {
+            right &= tell("door", number(0, pieces - 1), number(1, 6), number(1, 4));
+        }
+        return right && tell("eyes", pick(20, 100, 300, 800)) && tell("walk", pick(1, 1, 2))
+            && tell("gauges", number(0, (1 << pieces) - 1), pick(1, 50, 300, 1000), number(0, 3));
+    }
+
+    /** Readings that are so with one of the fires or with none, and drills as they would have been. */
+    private boolean told() {
+        boolean right = true;
+        int mark = pick(1, 50, 300, 1000);
+        right &= tell("gauges", number(0, (1 << plain.count(0)) - 1), mark, number(0, 3));
+        int fire = number(-1, plain.count(2) - 1);
+        for (int i = 0; i < number(0, 3); i++) {
+            int piece = number(0, plain.count(0) - 1);
+            int minute = number(0, 12);
+            long smoke = plain.smoke(0, 0, 0, fire, piece, minute, true) + plain.smoke(0, 0, 0, fire, piece, minute, false);
+            right &= tell("reading", piece, minute, smoke >= mark);
+        }
+        for (int i = 0; i < number(0, 2); i++) {
+            int by = number(3, 20);
+            right &= tell("drill", by, Math.max(0, plain.out(0, 0, 0, -1, by) - number(0, 3)));
+        }
+        return right;
+    }
+
+    private boolean dear() {
+        int k = number(0, 6);
+        int by = number(6, 20);
+        int fire = number(0, plain.count(2) - 1);
+        int plan = number(0, 3);
+        boolean right = tell("best", k, by) && tell("turn", plan, k, by) && tell("turnTo", plan, k, by, fire)
+            && tell("regret", plan, number(0, 3), k, fire, by) && tell("all", plan, number(0, 3), k, fire)
+            && tell("fewest", plan, by, fires()) && tell("fits", plan) && tell("next", 0) && tell("fit")
+            && tell("alike", plan, k, fire, number(-1, plain.count(2) - 1));
+        int piece = number(0, plain.count(0) - 1);
+        int other = number(0, 3);
+        for (int minute = 0; minute <= 20 && right; minute++) {
+            right = tell("whereAt", plan, other, k, fire, piece, k, minute)
+                && tell("side", plan, other, k, fire, 20, minute);
+        }
+        right &= tell("row", 0, number(0, 3), 21) && tell("lay", plan, other, k, fire, by, 0);
+        right &= tell("worth", plan, other, k, fire, number(by - 3, by), 0);
+        return right && tell("reach", plan, other, k, fire, piece, number(4, 24));
+    }
+
+    private boolean runInAHouse() {
+        boolean right = house();
+        for (int i = 0; i < 3 && right; i++) {
+            right = told() && dear() && telling(3) && asking(10);
+            for (int back = number(0, 8); back > 0 && right; back--) {
+                right = tell("undo");
+            }
+        }
+        return right;
+    }
+
     private boolean run() {
+        if (isHouse) {
+            return runInAHouse();
+        }
         while (log.size() < CALLS - 100) {
             for (int i = 0; i < 2; i++) {
                 if (plain.count(0) < most && !call("piece", TELLING.get("piece"))) {
