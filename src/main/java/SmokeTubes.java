@@ -618,13 +618,7 @@ public final class SmokeTubes {
             done--;
             undone++;
             version++;
-            int slot = slotOf(done);
-            Table table = tables[slot];
-            if (table != null && changed[slot] == NONE) {
-                table.shrink();
-            } else if (table != null) {
-                swap(slot, table);
-            }
+            turnOver(slotOf(done), false);
             return true;
         }
 
@@ -632,16 +626,10 @@ public final class SmokeTubes {
             if (undone == 0) {
                 return false;
             }
-            int slot = slotOf(done);
+            turnOver(slotOf(done), true);
             done++;
             undone--;
             version++;
-            Table table = tables[slot];
-            if (table != null && changed[slot] == NONE) {
-                table.grow();
-            } else if (table != null) {
-                swap(slot, table);
-            }
             return true;
         }
 
@@ -661,6 +649,21 @@ public final class SmokeTubes {
 
         private int slotOf(int act) {
             return (oldest + act) % MOST_ACTS;
+        }
+
+        /** A row that was added goes or comes again; one that was changed is swapped with what is kept of it. */
+        private void turnOver(int slot, boolean again) {
+            Table table = tables[slot];
+            if (table == null) {
+                return;
+            }
+            if (changed[slot] != NONE) {
+                swap(slot, table);
+            } else if (again) {
+                table.grow();
+            } else {
+                table.shrink();
+            }
         }
 
         private void swap(int slot, Table table) {

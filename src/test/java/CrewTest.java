@@ -55,6 +55,33 @@ public final class CrewTest {
         Check.due("29 too little", late.reach(0, 0, 0, 0, 1, 3), NONE);
     }
 
+    /** A draught of 6 towards piece 2 stirs up what the fire gives at once, and drives it off from then on. */
+    private static void waitingHelps() {
+        SmokeTubes ahead = chain(1);
+        ahead.piece(1, 0);
+        ahead.way(1, 2, 1, 1, 6);
+        ahead.fire(1, 0, 1, 100, 0, 100);
+        ahead.eyes(50);
+        Check.due("29 shut in 1", ahead.shut(0, 0, 0, 0, 1, 1), true);
+        Check.due("29 not in 2", ahead.shut(0, 0, 0, 0, 1, 2), false);
+        Check.due("29 at once", ahead.reach(0, 0, 0, 0, 1, 4), 1);
+        Check.due("29 a minute later it needs less", ahead.reach(0, 0, 0, 0, 1, 3), 2);
+        Check.due("29 too little", ahead.reach(0, 0, 0, 0, 1, 2), NONE);
+        SmokeTubes behind = chain(1);
+        behind.piece(1, 0);
+        behind.way(0, 2, 1, 1, 6);
+        behind.fire(0, 1, 2, 100, 0, 100);
+        behind.eyes(50);
+        Check.due("29 shut where it comes back in 2", behind.shut(0, 0, 0, 0, 0, 2), true);
+        Check.due("29 not in 3", behind.shut(0, 0, 0, 0, 0, 3), false);
+        Check.due("29 it stays for a minute", behind.reach(0, 0, 0, 0, 1, 3), 1);
+        Check.due("29 too little", behind.reach(0, 0, 0, 0, 1, 2), NONE);
+        behind.fire(1, 1, 2, 400, 0, 400);
+        behind.water(0, 0);
+        Check.due("29 shut where it would stay", behind.shut(0, 0, 0, 1, 1, 2), true);
+        Check.due("29 it comes back at once", behind.reach(0, 0, 0, 1, 1, 2), 1);
+    }
+
     private static void drills() {
         SmokeTubes x = new SmokeTubes();
         Check.due("31 without drills all fit", x.fit(), 7);
@@ -108,6 +135,7 @@ public final class CrewTest {
     public static void main(String[] args) {
         reaches();
         shutPieces();
+        waitingHelps();
         drills();
         wrong();
         Check.end("CrewTest");

@@ -294,7 +294,13 @@ public final class RandomRuns {
         }
         right &= tell("row", 0, number(0, 3), 21) && tell("lay", plan, other, k, fire, by, 0);
         right &= tell("worth", plan, other, k, fire, number(by - 3, by), 0);
-        return right && tell("reach", plan, other, k, fire, piece, number(4, 24));
+        for (int air = 1; air <= 16 && right; air++) {
+            right = tell("reach", plan, other, k, fire, piece, air);
+        }
+        for (int first = 0; first < 4 && right; first++) {
+            right = tell("smoke", first, other, k, fire, piece, by, false) && tell("out", first, other, k, fire, by);
+        }
+        return right;
     }
 
     private boolean runInAHouse() {

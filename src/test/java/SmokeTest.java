@@ -184,6 +184,31 @@ public final class SmokeTest {
         Check.due("17 behind 20", late.lost(0, 0, 0, 1, 0), NONE);
     }
 
+    /** Courses that differ in one thing, asked one behind the other and back again. */
+    private static void oneBehindTheOther() {
+        SmokeTubes x = two(1, 0);
+        x.fan(0, 6, 1000000, 0);
+        x.fire(1, 0, 1, 400, 0, 1000);
+        x.set(1, 0, 0, 1);
+        x.set(2, 0, 0, -1);
+        for (int round = 0; round < 2; round++) {
+            Check.due("15 plans 0, 1", x.smoke(0, 1, 1, 0, 0, 1, false), 175);
+            Check.due("15 another first one", x.smoke(1, 1, 1, 0, 0, 1, false), 700);
+            Check.due("15 a third one", x.smoke(2, 1, 1, 0, 0, 1, false), 200);
+            Check.due("15 another k", x.smoke(2, 1, 0, 0, 0, 1, false), 700);
+            Check.due("15 another other one", x.smoke(2, 0, 0, 0, 0, 1, false), 175);
+            Check.due("15 another fire", x.smoke(2, 0, 0, 1, 0, 1, true), 50);
+            Check.due("15 none", x.smoke(2, 0, 0, NONE, 0, 1, true), 0);
+            x.eyes(round);
+        }
+        x.water(0, 1);
+        Check.due("15 washed now", x.smoke(0, 1, 1, 0, 0, 1, false), 132);
+        x.undo();
+        Check.due("15 not washed again", x.smoke(0, 1, 1, 0, 0, 1, false), 175);
+        x.redo();
+        Check.due("15 washed again", x.smoke(0, 1, 1, 0, 0, 1, false), 132);
+    }
+
     private static void shut() {
         SmokeTubes x = two(0, 0);
         x.eyes(175);
@@ -237,6 +262,7 @@ public final class SmokeTest {
         isMixed();
         goneAndWashed();
         lost();
+        oneBehindTheOther();
         shut();
         wrong();
         Check.end("SmokeTest");
