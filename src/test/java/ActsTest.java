@@ -11,16 +11,17 @@ public final class ActsTest {
         for (int what = 0; what <= 10; what++) {
             all.add((long) x.count(what));
         }
-        for (int fire = NONE; fire < x.count(2); fire++) {
+        long fires = all.get(2);
+        for (int fire = NONE; fire < fires; fire++) {
             for (int plan = 0; plan < 2; plan++) {
-                for (int minute = 0; minute <= 20; minute += 4) {
-                    for (int piece = 0; piece < x.count(0); piece++) {
+                for (int minute = 0; minute <= 20; minute += 5) {
+                    for (int piece = 0; piece < all.get(0); piece++) {
                         all.add(x.smoke(plan, plan, 0, fire, piece, minute, true));
                         all.add(x.smoke(plan, plan, 0, fire, piece, minute, false));
                         all.add(x.shut(plan, plan, 0, fire, piece, minute) ? 1L : 0L);
                         all.add(x.dose(plan, plan, 0, fire, piece, minute));
                     }
-                    for (int way = 0; way < x.count(1); way++) {
+                    for (int way = 0; way < all.get(1); way++) {
                         all.add((long) x.air(plan, plan, 0, fire, way, minute));
                     }
                     all.add((long) x.out(plan, plan, 0, fire, minute));
@@ -65,29 +66,39 @@ public final class ActsTest {
         return acts;
     }
 
-    private static void backAndForth() {
+    /** A new object with the first so many acts. */
+    private static SmokeTubes after(int many) {
         SmokeTubes x = new SmokeTubes();
-        List<List<Long>> states = new ArrayList<>();
-        states.add(look(x));
         List<Runnable> acts = acts(x);
-        for (Runnable act : acts) {
-            act.run();
-            states.add(look(x));
+        for (int act = 0; act < many; act++) {
+            acts.get(act).run();
         }
-        int many = acts.size();
-        for (int round = 0; round < 2; round++) {
-            for (int left = many - 1; left >= 0; left--) {
-                Check.due("38 taken back", x.undo(), true);
-                Check.yes("38 as it was ahead of act " + left, look(x).equals(states.get(left)));
-                Check.due("43 may be taken back", x.count(11), left);
-                Check.due("43 may be done again", x.count(12), many - left);
+        return x;
+    }
+
+    /** An object is used for at most 512 calls, and a look takes most of them: so one for each look. */
+    private static void backAndForth() {
+        int many = acts(new SmokeTubes()).size();
+        for (int left = 0; left <= many; left++) {
+            List<Long> due = look(after(left));
+            SmokeTubes back = after(many);
+            for (int act = many; act > left; act--) {
+                Check.due("38 taken back", back.undo(), true);
             }
-            Check.due("38 none is left", x.undo(), false);
-            for (int left = 1; left <= many; left++) {
-                Check.due("39 done again", x.redo(), true);
-                Check.yes("39 as it was behind act " + left, look(x).equals(states.get(left)));
+            Check.due("43 may be taken back", back.count(11), left);
+            Check.due("43 may be done again", back.count(12), many - left);
+            Check.yes("38 as it was ahead of act " + left, look(back).equals(due));
+            SmokeTubes forth = after(many);
+            for (int act = many; act > 0; act--) {
+                Check.due("38 taken back", forth.undo(), true);
             }
-            Check.due("39 none is left", x.redo(), false);
+            Check.due("38 none is left", forth.undo(), false);
+            for (int act = 0; act < left; act++) {
+                Check.due("39 done again", forth.redo(), true);
+            }
+            Check.due("39 more may be", forth.redo(), left < many);
+            Check.due("38 and back", left == many || forth.undo(), true);
+            Check.yes("39 as it was behind act " + left, look(forth).equals(due));
         }
     }
 

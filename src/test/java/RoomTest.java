@@ -1,7 +1,7 @@
 import com.sun.management.ThreadMXBean;
 import java.lang.management.ManagementFactory;
 
-/** All calls of a run live in one room: the dearest ones, 512 times, make next to nothing. */
+/** All calls of a run live in one room: an object's 512 calls, dear ones among them, make next to nothing. */
 public final class RoomTest {
     private static final long MOST_BYTES = 500_000;
 
@@ -46,7 +46,7 @@ public final class RoomTest {
         long was = bean.getThreadAllocatedBytes(thread);
         SmokeTubes x = full();
         x.row(0, 3, 21);
-        for (int i = 0; i < 300; i++) {
+        for (int i = 0; i < 170; i++) {
             x.eyes(3000 + i);
             int what = i % 10;
             int by = 10 + i % 11;
