@@ -25,20 +25,19 @@ final class Check {
         due(what, so, true);
     }
 
-    /** The call must throw just that exception. */
+    /** The call must throw just that exception; with null, none. */
     static void due(String what, Runnable call, Class<? extends RuntimeException> want) {
         asked++;
-        String got = "nothing";
+        Class<?> got = null;
         try {
             call.run();
         } catch (RuntimeException e) {
-            if (e.getClass() == want) {
-                return;
-            }
-            got = e.getClass().getName();
+            got = e.getClass();
         }
-        wrong++;
-        System.out.println(what + ": threw " + got + ", due is " + want.getName());
+        if (got != want) {
+            wrong++;
+            System.out.println(what + ": threw " + got + ", due is " + want);
+        }
     }
 
     static void end(String name) {
