@@ -202,6 +202,20 @@ public final class ActsEdgesTest {
         Check.due("8 as it was", x.eyes(1), 999);
     }
 
+    /** "used for at most 512 calls": the last of them is answered as the first is. */
+    private static void lastCall() {
+        SmokeTubes x = new SmokeTubes();
+        x.piece(9, 4);
+        x.group(0, 9, 0);
+        for (int call = 3; call <= 508; call++) {
+            Check.due("8 call " + call, x.eyes(call), call == 3 ? 1000 : call - 1);
+        }
+        Check.due("43 call 509", x.count(11), 100);
+        Check.due("19 call 510", x.out(0, 0, 0, NONE, 2), 8);
+        Check.due("38 call 511", x.undo(), true);
+        Check.due("8 call 512", x.eyes(1), 507);
+    }
+
     /** "what was taken back latest done again, as long as there was no other ACT since". */
     private static void otherActSince() {
         SmokeTubes x = new SmokeTubes();
@@ -241,6 +255,44 @@ public final class ActsEdgesTest {
         x.group(0, 5, 0);
         Check.due("2 room 2", x.out(0, 0, 0, NONE, 20), 2);
         Check.due("43 five", x.count(6), 5);
+    }
+
+    /** Asked at each step: what was answered ahead of an act, taken back or done again, isn't answered behind it. */
+    private static void askedAtEachStep() {
+        SmokeTubes x = Houses.stirred(40, 9);
+        x.group(0, 5, 1);
+        Check.due("19 five", x.out(0, 0, 0, 0, 20), 5);
+        x.undo();
+        Check.due("38 nobody", x.out(0, 0, 0, 0, 20), 0);
+        x.group(0, 3, 1);
+        Check.due("19 three", x.out(0, 0, 0, 0, 20), 3);
+        x.eyes(0);
+        Check.due("19 shut", x.out(0, 0, 0, 0, 20), 0);
+        x.undo();
+        Check.due("38 three again", x.out(0, 0, 0, 0, 20), 3);
+        x.redo();
+        Check.due("39 shut again", x.out(0, 0, 0, 0, 20), 0);
+        x.eyes(9);
+        Check.due("19 not shut", x.out(0, 0, 0, 0, 20), 3);
+        x.undo();
+        x.undo();
+        Check.due("38 eyes as at first", x.out(0, 0, 0, 0, 20), 3);
+        x.redo();
+        x.group(0, 7, 0);
+        Check.due("19 seven in 0", x.out(0, 0, 0, 0, 20), 7);
+        x.undo();
+        Check.due("38 none", x.out(0, 0, 0, 0, 20), 0);
+        x.undo();
+        x.group(0, 7, 0);
+        Check.due("19 seven and three", x.out(0, 0, 0, 0, 20), 10);
+        Check.due("15 8 mixed", x.smoke(0, 0, 0, 0, 0, 1, false), 8);
+        x.water(0, 0);
+        Check.due("15 6 mixed", x.smoke(0, 0, 0, 0, 0, 1, false), 6);
+        x.undo();
+        Check.due("38 8 mixed", x.smoke(0, 0, 0, 0, 0, 1, false), 8);
+        x.water(0, 2);
+        Check.due("15 8 mixed in 1", x.smoke(0, 0, 0, 0, 0, 1, false), 8);
+        Check.due("15 6 mixed in 2", x.smoke(0, 0, 0, 0, 0, 2, false), 6);
     }
 
     /** Water, doors and gauges go back to what they were, step by step. */
@@ -298,8 +350,10 @@ public final class ActsEdgesTest {
         hundred();
         theFirstOfMore();
         manyMore();
+        lastCall();
         otherActSince();
         toldOtherwise();
+        askedAtEachStep();
         whatTheyWere();
         counts();
         Check.end("ActsEdgesTest");

@@ -152,6 +152,10 @@ public final class AloneEdgesTest {
         Check.due("15 2 mixed in 1", x.smoke(0, 0, 0, 0, 1, 1, false), 2);
         gone("the far out without any", x, 0, 0, 0, 5);
         where("the far out", x, 0, 0, 0, 0, NONE, NONE, NONE, 2, NONE);
+        Check.due("34 no smoke: the near out, asked behind the other fire", x.whereAt(0, 0, 0, 1, 0, 0, 1), 1);
+        Check.due("34 the far out again", x.whereAt(0, 0, 0, 0, 0, 0, 1), NONE);
+        Check.due("33 no smoke: the near out, asked behind the other fire", x.outAt(0, 0, 0, 1, 0, 0), 2);
+        Check.due("33 the far out again", x.outAt(0, 0, 0, 0, 0, 0), 5);
         Check.due("32 no smoke", x.dose(0, 0, 0, 1, 0, 0), 0);
         Check.due("33 no smoke: the near out", x.outAt(0, 0, 0, 1, 0, 0), 2);
         gone("too late for the far out", x, 0, 16, 2, 18);

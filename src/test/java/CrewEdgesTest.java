@@ -177,6 +177,32 @@ public final class CrewEdgesTest {
         Check.due("29 none burns", reach(x, 1, 2), 1);
     }
 
+    /**
+     * Piece 1, two minutes off, is shut in 3; the air drives its smoke to the out, which is shut in 4, and then back.
+     * To stay for a minute in 3 takes 2 more, as to come back in 4 does.
+     */
+    private static void stayingWhereItIsShutOnTheWayBack() {
+        SmokeTubes x = new SmokeTubes();
+        x.piece(1, 1);
+        x.piece(1, 0);
+        x.way(1, 0, 2, 1, 0);
+        for (int fan = 0; fan < 2; fan++) {
+            x.fan(0, 6, 1000000, 0);
+            x.set(0, fan, 2, 1);
+            x.set(0, fan, 4, -1);
+        }
+        x.fire(1, 2, 3, 160, 0, 160);
+        x.eyes(100);
+        boolean[][] shut = {{false, false, false, false, true, false}, {false, false, false, true, false, true}};
+        for (int piece = 0; piece < 2; piece++) {
+            for (int minute = 0; minute < 6; minute++) {
+                Check.due("18 piece " + piece + " in " + minute, x.shut(0, 0, 0, 0, piece, minute), shut[piece][minute]);
+            }
+        }
+        Check.due("29 back in 4 with 6", x.reach(0, 0, 0, 0, 1, 6), 2);
+        Check.due("29 one too little", x.reach(0, 0, 0, 0, 1, 5), NONE);
+    }
+
     // ---- drills
 
     /** 2 out by each minute from 2 on with walk 1, from 3 on with walk 2, from 4 on with walk 3. */
@@ -256,6 +282,7 @@ public final class CrewEdgesTest {
         shutPieces();
         stayingWhereItIsShut();
         stayingOnTheWayBack();
+        stayingWhereItIsShutOnTheWayBack();
         notLess();
         eachDrill();
         asDrilled();

@@ -157,6 +157,22 @@ public final class RowEdgesTest {
         Check.due("42 the side by 0", worth(few, 0, 0), 0);
     }
 
+    /** With a fire that shuts the piece in 1, and without it, one behind the other. */
+    private static void layByFire() {
+        SmokeTubes x = Houses.stirred(40, 9);
+        x.eyes(0);
+        x.group(0, 5, 1);
+        x.row(0, 1, 4);
+        for (int round = 0; round < 2; round++) {
+            x.lay(0, 0, 0, 0, 3, 0);
+            Check.due("42 shut in 1: nobody is out, and the side proves it", x.worth(0, 0, 0, 0, 3, 0), 0);
+            Check.due("42 if none burns it is worth the room", worth(x, 3, 0), 60);
+            x.lay(0, 0, 0, NONE, 3, 0);
+            Check.due("42 none burns: all five, nothing in it", worth(x, 3, 0), 5);
+            Check.due("42 nothing in it, by the fire", x.worth(0, 0, 0, 0, 3, 0), 5);
+        }
+    }
+
     /** "each number cut to its sort": of 8 bits the begins alone; with piece 7's begin all that is above it too. */
     private static void cutSides() {
         SmokeTubes x = hall();
@@ -203,6 +219,7 @@ public final class RowEdgesTest {
         order();
         lay();
         otherPlacesStay();
+        layByFire();
         cutSides();
         notTakenBack();
         Check.end("RowEdgesTest");
