@@ -777,7 +777,8 @@ public final class SmokeTubes {
         int otherEnd(int way, int piece) {
             int a = ways.at(way, WAY_A);
             int b = ways.at(way, WAY_B);
-            return a == piece ? b : b == piece ? a : NONE;
+            int end = a == piece ? b : b == piece ? a : NONE;
+            return pieces.has(end) ? end : NONE;
         }
 
         int allPeople() {
@@ -925,9 +926,13 @@ public final class SmokeTubes {
             Arrays.fill(turnedFrom, NONE);
             for (int told = 0; told < house.sets.size(); told++) {
                 int plan = house.sets.at(told, House.SET_PLAN);
+                int fan = house.sets.at(told, House.SET_FAN);
                 int from = house.sets.at(told, House.SET_MINUTE);
+                if (from < 0 || !house.fans.has(fan)) {
+                    continue;
+                }
                 for (int minute = from; minute < MINUTES; minute++) {
-                    int at = minute * MOST_FANS + house.sets.at(told, House.SET_FAN);
+                    int at = minute * MOST_FANS + fan;
                     if ((minute < k ? first : other) == plan && from >= turnedFrom[at]) {
                         turnedFrom[at] = from;
                         turned[at] = house.sets.at(told, House.SET_IS);
@@ -963,9 +968,9 @@ public final class SmokeTubes {
                 airs[from + way] = house.ways.at(way, House.WAY_DRAUGHT);
             }
             for (int fan = 0; fan < house.fans.size(); fan++) {
-                if (lost[fan] == NONE) {
-                    int push = house.fans.at(fan, House.FAN_PUSH) * turned[minute * MOST_FANS + fan];
-                    airs[from + house.fans.at(fan, House.FAN_WAY)] += push;
+                int way = house.fans.at(fan, House.FAN_WAY);
+                if (lost[fan] == NONE && house.ways.has(way)) {
+                    airs[from + way] += house.fans.at(fan, House.FAN_PUSH) * turned[minute * MOST_FANS + fan];
                 }
             }
             for (int way = 0; way < house.ways.size(); way++) {
@@ -979,8 +984,10 @@ public final class SmokeTubes {
                 int a = house.ways.at(way, House.WAY_A);
                 int b = house.ways.at(way, House.WAY_B);
                 int air = airs[minute * MOST_WAYS + way];
-                carry(minute, a, b, air);
-                carry(minute, b, a, -air);
+                if (house.pieces.has(a) && house.pieces.has(b)) {
+                    carry(minute, a, b, air);
+                    carry(minute, b, a, -air);
+                }
             }
             for (int piece = 0; piece < house.pieces.size(); piece++) {
                 settle(minute, piece);
@@ -1115,7 +1122,7 @@ public final class SmokeTubes {
             int through = 0;
             int depth = 0;
             int node = SOURCE;
-            for (int step = 0; step < MOST_STEPS; step++) {
+            for (int step = 0; step < MOST_STEPS && depth < NODES; step++) {
                 int arc = nextArc(node);
                 if (arc == NONE && depth == 0) {
                     break;
@@ -1621,7 +1628,7 @@ public final class SmokeTubes {
             for (int way = 0; way < house.ways.size(); way++) {
                 int end = house.otherEnd(way, piece);
                 int takes = house.ways.at(way, House.WAY_LONG);
-                if (end != NONE && takes <= minute) {
+                if (end != NONE && takes > 0 && takes <= minute) {
                     least = Math.min(least, there[spot(end, minute - takes)] + takes);
                 }
             }
@@ -1646,7 +1653,7 @@ public final class SmokeTubes {
             for (int way = 0; way < house.ways.size(); way++) {
                 int end = house.otherEnd(way, piece);
                 int takes = house.ways.at(way, House.WAY_LONG);
-                if (end != NONE && minute + takes <= LAST_MINUTE) {
+                if (end != NONE && takes > 0 && minute + takes <= LAST_MINUTE) {
                     int needs = back[spot(end, minute + takes)] + takes + comes(end, minute + takes);
                     least = Math.min(least, needs);
                 }
@@ -1742,7 +1749,7 @@ public final class SmokeTubes {
         }
 
         private void tryDeed(int at, int piece, int minute, int deed) {
-            if (minute > LAST_MINUTE) {
+            if (!isPlace(piece, minute)) {
                 return;
             }
             int then = spot(piece, minute);
@@ -1774,7 +1781,7 @@ public final class SmokeTubes {
             }
             there |= 1 << row;
             sorts[row] = sort;
-            lengths[row] = many;
+            lengths[row] = Math.max(0, Math.min(many, MOST_PLACES));
             for (int place = 0; place < MOST_PLACES; place++) {
                 cells[row * MOST_PLACES + place] = 0;
             }
