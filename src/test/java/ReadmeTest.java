@@ -115,13 +115,13 @@ public final class ReadmeTest {
     }
 
     public static void main(String[] args) throws IOException, InterruptedException {
-        Path here = Path.of(args.length > 0 ? args[0] : ".").toAbsolutePath().normalize();
+        Path here = Path.of(args.length > 0 ? args[0] : ".").toRealPath();
         String page = Files.readString(here.resolve("README.md"));
         namedFiles(here, page);
         calls(page);
         Path room = Files.createTempDirectory("readme");
         try {
-            Files.createSymbolicLink(room.resolve("shared"), here.resolveSibling("shared"));
+            Files.createSymbolicLink(room.resolve("shared"), here.resolve("../shared").toRealPath());
             Path copy = Files.createDirectory(room.resolve("main"));
             copySources(here, copy);
             blocks(here, copy, page);
